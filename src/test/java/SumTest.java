@@ -1,0 +1,83 @@
+/** Promise 8: sum. */
+public final class SumTest {
+    public static void main(String[] args) {
+        Check check = new Check();
+        theVectorsOfTheRfc(check);
+        everySize(check);
+        numbersNearThePrime(check);
+        theTapeIsEmptied(check);
+        check.end();
+    }
+
+    private static void vector(Check check, String key, byte[] row, String sum) {
+        StreamSeal x = Hands.made(Bytes.hex(key), new byte[12], row);
+        check.due("sum()", x.sum(), 16);
+        check.due("octet(-1)", x.octet(-1), 16);
+        check.due("sum() of key " + key, Hands.out(x), sum);
+        check.due("the reference for key " + key, Reference.sum(Bytes.hex(key), row), sum);
+    }
+
+    private static void theVectorsOfTheRfc(Check check) {
+        String zeros = "00000000000000000000000000000000";
+        String ones = "ffffffffffffffffffffffffffffffff";
+        String one = "01000000000000000000000000000000";
+        String two = "02000000000000000000000000000000";
+        // RFC 8439, 2.5.2
+        vector(check, "85d6be7857556d337f4452fe42d506a80103808afb0db2fd4abff6af4149f51b",
+                Bytes.text("Cryptographic Forum Research Group"), "a8061dc1305136c6c22b8baf0c0127a9");
+        // RFC 8439, A.3, test vectors 1 and 7 to 11
+        vector(check, zeros + zeros, new byte[64], zeros);
+        vector(check, two + zeros, Bytes.hex(ones), "03000000000000000000000000000000");
+        vector(check, two + ones, Bytes.hex(two), "03000000000000000000000000000000");
+        vector(check, one + zeros,
+                Bytes.hex(ones + "f0ffffffffffffffffffffffffffffff" + "11000000000000000000000000000000"),
+                "05000000000000000000000000000000");
+        vector(check, one + zeros,
+                Bytes.hex(ones + "fbfefefefefefefefefefefefefefefe" + "01010101010101010101010101010101"),
+                zeros);
+        vector(check, two + zeros, Bytes.hex("fdffffffffffffffffffffffffffffff"),
+                "faffffffffffffffffffffffffffffff");
+        vector(check, "01000000000000000400000000000000" + zeros, Bytes.hex(
+                "e33594d7505e43b900000000000000003394d7505e4379cd01000000000000000000000000000000"
+                + "000000000000000001000000000000000000000000000000"), "14000000000000005500000000000000");
+        vector(check, "01000000000000000400000000000000" + zeros, Bytes.hex(
+                "e33594d7505e43b900000000000000003394d7505e4379cd010000000000000000000000000000000000000000000000"),
+                "13000000000000000000000000000000");
+    }
+
+    private static void everySize(Check check) {
+        for (int size = 0; size <= 800; size++) {
+            byte[] key = Bytes.mixed(size, 32);
+            byte[] row = Bytes.mixed(size + 1000, size);
+            StreamSeal x = Hands.made(key, new byte[12], row);
+            check.due("sum() of " + size, x.sum(), 16);
+            check.due("OUT of sum() of " + size, Hands.out(x), Reference.sum(key, row));
+        }
+    }
+
+    private static void numbersNearThePrime(Check check) {
+        for (int factor = 0; factor < 256; factor++) {
+            for (int lowest = 0xf0; lowest < 256; lowest++) {
+                byte[] key = Bytes.repeat(255, 32);
+                if (factor < 255) {
+                    System.arraycopy(new byte[16], 0, key, 0, 16);
+                    key[0] = (byte) factor;
+                }
+                byte[] row = Bytes.repeat(255, 48);
+                row[32] = (byte) lowest;
+                StreamSeal x = Hands.made(key, new byte[12], row);
+                x.sum();
+                check.due("sum() near the prime, " + factor + " " + lowest, Hands.out(x), Reference.sum(key, row));
+            }
+        }
+    }
+
+    private static void theTapeIsEmptied(Check check) {
+        byte[] key = Bytes.mixed(24, 32);
+        StreamSeal x = Hands.made(key, new byte[12], Bytes.mixed(25, 100));
+        x.sum();
+        check.due("end(1) behind sum()", x.end(1), StreamSeal.REFUSED);
+        check.due("sum() of nothing", x.sum(), 16);
+        check.due("OUT of sum() of nothing", Hands.out(x), Reference.sum(key, new byte[0]));
+    }
+}
