@@ -372,6 +372,7 @@ public final class StreamSeal {
 
         /** Writes 16 bytes to the row from the place on. */
         void finish(byte[] row, int at) {
+            // The lowest part may be a little above its 26 bits still; the words need it within them.
             carry();
             takePrimeOff();
             words[0] = total[0] | (total[1] << 26);
@@ -426,7 +427,8 @@ public final class StreamSeal {
                 product[i] = straight + 5 * wrapped;
             }
             System.arraycopy(product, 0, total, 0, PARTS);
-            // The first carry leaves too much in the lowest part for the next product.
+            // What the first carry brings back makes the lowest part long; the second leaves it
+            // at most 5 above what 26 bits hold.
             carry();
             carry();
         }

@@ -11,7 +11,7 @@ import javax.crypto.spec.SecretKeySpec;
 
 /** The document's terms by the Java library, and SUM by whole numbers as RFC 8439 tells it. */
 final class Reference {
-    private static final BigInteger PRIME = BigInteger.TWO.pow(130).subtract(BigInteger.valueOf(5));
+    static final BigInteger PRIME = BigInteger.TWO.pow(130).subtract(BigInteger.valueOf(5));
     private static final BigInteger CLAMP = new BigInteger("0ffffffc0ffffffc0ffffffc0fffffff", 16);
 
     private Reference() {
@@ -29,19 +29,26 @@ final class Reference {
     }
 
     static byte[] sum(byte[] key, byte[] row) {
-        BigInteger factor = lowestFirst(Arrays.copyOfRange(key, 0, 16)).and(CLAMP);
+        BigInteger factor = factor(key);
         BigInteger total = BigInteger.ZERO;
         for (int at = 0; at < row.length; at += 16) {
             byte[] block = Arrays.copyOfRange(row, at, Math.min(at + 16, row.length));
             BigInteger number = lowestFirst(block).setBit(8 * block.length);
             total = total.add(number).multiply(factor).mod(PRIME);
         }
-        total = total.add(lowestFirst(Arrays.copyOfRange(key, 16, 32)));
-        byte[] sum = new byte[16];
-        for (int i = 0; i < 16; i++) {
-            sum[i] = total.shiftRight(8 * i).byteValue();
+        return lowestFirst(total.add(lowestFirst(Arrays.copyOfRange(key, 16, 32))), 16);
+    }
+
+    static BigInteger factor(byte[] key) {
+        return lowestFirst(Arrays.copyOfRange(key, 0, 16)).and(CLAMP);
+    }
+
+    static byte[] lowestFirst(BigInteger number, int size) {
+        byte[] row = new byte[size];
+        for (int i = 0; i < size; i++) {
+            row[i] = number.shiftRight(8 * i).byteValue();
         }
-        return sum;
+        return row;
     }
 
     static byte[] seal(byte[] key, byte[] nonce, byte[] head, byte[] body) {

@@ -1,3 +1,6 @@
+import java.math.BigInteger;
+import java.util.Random;
+
 /** Promise 8: sum. */
 public final class SumTest {
     public static void main(String[] args) {
@@ -5,6 +8,7 @@ public final class SumTest {
         theVectorsOfTheRfc(check);
         everySize(check);
         numbersNearThePrime(check);
+        totalsNearTheirEdges(check);
         theTapeIsEmptied(check);
         check.end();
     }
@@ -68,6 +72,40 @@ public final class SumTest {
                 StreamSeal x = Hands.made(key, new byte[12], row);
                 x.sum();
                 check.due("sum() near the prime, " + factor + " " + lowest, Hands.out(x), Reference.sum(key, row));
+            }
+        }
+    }
+
+    /**
+     * Totals just where bits are carried from one part of a number to the next, or the prime is taken
+     * off: runs of other tests would hardly ever come to one, so the block is solved for here.
+     */
+    private static void totalsNearTheirEdges(Check check) {
+        Random random = new Random(8);
+        int[] bits = {0, 24, 26, 32, 52, 64, 78, 96, 104, 128, 130};
+        for (int bit : bits) {
+            for (int times = 1; times <= 16; times++) {
+                for (int off = -7; off <= 7; off++) {
+                    BigInteger edge = BigInteger.valueOf(times).shiftLeft(bit).add(BigInteger.valueOf(off));
+                    totalOf(check, random, edge.mod(Reference.PRIME));
+                }
+            }
+        }
+    }
+
+    private static void totalOf(Check check, Random random, BigInteger total) {
+        for (int i = 0; i < 100; i++) {
+            byte[] key = new byte[32];
+            random.nextBytes(key);
+            BigInteger block = total.multiply(Reference.factor(key).modInverse(Reference.PRIME))
+                    .mod(Reference.PRIME);
+            // Only a number with the bit that is set behind 16 bytes, and none above it, is a block.
+            if (block.bitLength() == 129) {
+                byte[] row = Reference.lowestFirst(block, 16);
+                StreamSeal x = Hands.made(key, new byte[12], row);
+                x.sum();
+                check.due("sum() of total " + total, Hands.out(x), Reference.sum(key, row));
+                return;
             }
         }
     }
