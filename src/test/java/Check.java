@@ -1,24 +1,31 @@
 import java.util.Arrays;
 import java.util.HexFormat;
 
-/** Counts the answers that are not the ones due, and tells them. */
+/** Counts the answers that are not the ones due, and tells them with the document's words that they break. */
 final class Check {
-    private int checked = 0;
+    private String words = "";
+    private int checkedOfWords = 0;
     private int wrong = 0;
 
+    /** What follows is the test of these words of the document. */
+    void words(String next) {
+        if (!words.isEmpty()) {
+            endWords();
+        }
+        words = next;
+    }
+
     void due(String what, long got, long want) {
-        checked++;
+        checkedOfWords++;
         if (got != want) {
-            wrong++;
-            System.out.println(what + " answered " + got + ", due is " + want);
+            tell(what + " answered " + got + ", due is " + want);
         }
     }
 
     void due(String what, byte[] got, byte[] want) {
-        checked++;
+        checkedOfWords++;
         if (!Arrays.equals(got, want)) {
-            wrong++;
-            System.out.println(what + " left " + HexFormat.of().formatHex(got)
+            tell(what + " left " + HexFormat.of().formatHex(got)
                     + ", due is " + HexFormat.of().formatHex(want));
         }
     }
@@ -31,11 +38,24 @@ final class Check {
         return wrong > 0;
     }
 
-    /** A test that checked nothing has proved nothing, so that fails too. */
     void end() {
-        if (wrong > 0 || checked == 0) {
-            System.out.println(wrong + " of " + checked + " answers are not as due");
+        endWords();
+        if (wrong > 0) {
+            System.out.println(wrong + " answers are not as due");
             System.exit(1);
         }
+    }
+
+    /** A test that checked nothing has proved nothing, so that is wrong too. */
+    private void endWords() {
+        if (checkedOfWords == 0) {
+            tell("nothing was checked");
+        }
+        checkedOfWords = 0;
+    }
+
+    private void tell(String text) {
+        wrong++;
+        System.out.println("\"" + words + "\": " + text);
     }
 }

@@ -23,6 +23,7 @@ public final class ModelTest {
 
     public static void main(String[] args) {
         Check check = new Check();
+        check.words("the answers and state changes described above, up to the 512th call");
         int opened = 0;
         for (int seed = 0; seed < RUNS && !check.anyWrong(); seed++) {
             ModelTest run = new ModelTest(check, seed);

@@ -10,6 +10,7 @@ public final class RoomTest {
 
     public static void main(String[] args) {
         Check check = new Check();
+        check.words("All calls of one run live in one room");
         // The first calls load classes, which is not what is to be measured.
         madeByCalls(check);
         long made = 0;

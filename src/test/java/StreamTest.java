@@ -4,11 +4,14 @@ public final class StreamTest {
         Check check = new Check();
         theVectorsOfTheRfc(check);
         everyCounterOfThirtyTwoBits(check);
-        theTapeStays(check);
+        theCounterWrapsWithoutTheNonce(check);
+        outBecomesTheStreamAlone(check);
+        nothingElseChanges(check);
         check.end();
     }
 
     private static void theVectorsOfTheRfc(Check check) {
+        check.words("64 bytes by ChaCha20 (as in RFC 8439, by its block function)");
         byte[] rising = new byte[32];
         for (int i = 0; i < 32; i++) {
             rising[i] = (byte) i;
@@ -44,23 +47,50 @@ public final class StreamTest {
     }
 
     private static void everyCounterOfThirtyTwoBits(Check check) {
-        byte[] key = Bytes.mixed(21, 32);
-        byte[] nonce = Bytes.mixed(22, 12);
-        int[] counters = {0, 1, 255, 256, 65536, Integer.MAX_VALUE, Integer.MIN_VALUE, -1, -2};
+        check.words("the STREAM of c (32 bits)");
+        int[] counters = {0, 1, 2, 255, 256, 65535, 65536, Integer.MAX_VALUE, Integer.MIN_VALUE, -1, -2};
         for (int counter : counters) {
-            StreamSeal x = Hands.made(key, nonce);
+            StreamSeal x = Scene.with(new byte[0]);
             check.due("stream(" + counter + ")", x.stream(counter), 64);
-            check.due("OUT of stream(" + counter + ")", Hands.out(x), Reference.stream(key, nonce, counter));
+            check.due("OUT of stream(" + counter + ")", Hands.out(x),
+                    Reference.stream(Scene.KEY, Scene.NONCE, counter));
         }
     }
 
-    private static void theTapeStays(Check check) {
-        byte[] row = Bytes.mixed(23, 51);
-        StreamSeal x = new StreamSeal();
-        Hands.put(x, row);
-        x.stream(1);
-        check.due("end(51) behind stream", x.end(51), 51);
-        x.digest();
-        check.due("H behind stream", Hands.out(x), Reference.digest(row));
+    /** The highest counter is -1; 0 comes behind it, and no bit of it goes over to THE NONCE. */
+    private static void theCounterWrapsWithoutTheNonce(Check check) {
+        check.words("the STREAM of c (32 bits: behind the highest comes 0)");
+        StreamSeal x = Scene.with(new byte[0]);
+        for (int counter = -2; counter <= 2; counter++) {
+            check.due("stream(" + counter + ") in a row", x.stream(counter), 64);
+            check.due("OUT of stream(" + counter + ") in a row", Hands.out(x),
+                    Reference.stream(Scene.KEY, Scene.NONCE, counter));
+        }
+    }
+
+    private static void outBecomesTheStreamAlone(Check check) {
+        check.words("OUT becomes the STREAM of c: 64 (whatever it had)");
+        byte[] want = Reference.stream(Scene.KEY, Scene.NONCE, 1);
+        StreamSeal x = Hands.made(Scene.KEY, Scene.NONCE, Bytes.mixed(22, 800));
+        x.seal(0);
+        check.due("stream(1) behind 816", x.stream(1), 64);
+        Scene.outIs(check, "behind 816", x, want);
+        x.sum();
+        check.due("stream(1) behind 16", x.stream(1), 64);
+        Scene.outIs(check, "behind 16", x, want);
+        check.due("stream(1) behind itself", x.stream(1), 64);
+        Scene.outIs(check, "behind itself", x, want);
+    }
+
+    private static void nothingElseChanges(Check check) {
+        check.words("OUT becomes the STREAM of c (nothing else does)");
+        int[] sizes = {0, 1, 32, 51, 800};
+        for (int size : sizes) {
+            byte[] row = Bytes.mixed(23, size);
+            StreamSeal x = Scene.with(row);
+            x.stream(1);
+            Scene.holds(check, "behind stream(1), TAPE of " + size, x, row,
+                    Reference.stream(Scene.KEY, Scene.NONCE, 1));
+        }
     }
 }

@@ -1,4 +1,5 @@
 import java.math.BigInteger;
+import java.util.Arrays;
 import java.util.Random;
 
 /** Promise 8: sum. */
@@ -6,10 +7,15 @@ public final class SumTest {
     public static void main(String[] args) {
         Check check = new Check();
         theVectorsOfTheRfc(check);
+        noBytes(check);
+        wholeAndShortBlocks(check);
         everySize(check);
+        bitsOfTheKeyThatDoNotCount(check);
         numbersNearThePrime(check);
         totalsNearTheirEdges(check);
-        theTapeIsEmptied(check);
+        theLastAdditionWrapsAround(check);
+        theNonceDoesNotCount(check);
+        outBecomesTheSumAlone(check);
         check.end();
     }
 
@@ -22,6 +28,7 @@ public final class SumTest {
     }
 
     private static void theVectorsOfTheRfc(Check check) {
+        check.words("16 bytes by Poly1305 (as there, k being its key)");
         String zeros = "00000000000000000000000000000000";
         String ones = "ffffffffffffffffffffffffffffffff";
         String one = "01000000000000000000000000000000";
@@ -49,7 +56,37 @@ public final class SumTest {
                 "13000000000000000000000000000000");
     }
 
+    private static void sumIs(Check check, String name, byte[] key, byte[] row) {
+        StreamSeal x = Hands.made(key, Scene.NONCE, row);
+        check.due("sum() of " + name, x.sum(), 16);
+        check.due("OUT of sum() of " + name, Hands.out(x), Reference.sum(key, row));
+    }
+
+    /** The sum of nothing is the key's second half. */
+    private static void noBytes(Check check) {
+        check.words("SUM(THE KEY, the TAPE) (the TAPE being empty)");
+        StreamSeal x = Scene.with(new byte[0]);
+        check.due("sum() of nothing", x.sum(), 16);
+        Scene.holds(check, "behind sum() of nothing", x, new byte[0], Arrays.copyOfRange(Scene.KEY, 16, 32));
+        StreamSeal y = Scene.with(Bytes.mixed(25, 100));
+        y.sum();
+        check.due("sum() of the emptied TAPE", y.sum(), 16);
+        check.due("OUT of sum() of the emptied TAPE", Hands.out(y), Arrays.copyOfRange(Scene.KEY, 16, 32));
+    }
+
+    /** A short last block is not the same as one with 0s behind it. */
+    private static void wholeAndShortBlocks(Check check) {
+        check.words("SUM(THE KEY, the TAPE) (of whole blocks, one byte less, one byte more, and 0s)");
+        int[] sizes = {1, 15, 16, 17, 31, 32, 33, 47, 48, 49, 783, 784, 785, 799, 800};
+        for (int size : sizes) {
+            sumIs(check, size + " bytes", Scene.KEY, Bytes.mixed(26, size));
+            sumIs(check, size + " 0s", Scene.KEY, new byte[size]);
+            sumIs(check, size + " times 255", Scene.KEY, Bytes.repeat(255, size));
+        }
+    }
+
     private static void everySize(Check check) {
+        check.words("SUM(THE KEY, the TAPE): 16");
         for (int size = 0; size <= 800; size++) {
             byte[] key = Bytes.mixed(size, 32);
             byte[] row = Bytes.mixed(size + 1000, size);
@@ -59,7 +96,20 @@ public final class SumTest {
         }
     }
 
+    private static void bitsOfTheKeyThatDoNotCount(Check check) {
+        check.words("k being its key (whose first half has bits that are cleared)");
+        byte[] row = Bytes.mixed(27, 40);
+        for (int bit = 0; bit < 256; bit++) {
+            byte[] key = Scene.KEY.clone();
+            key[bit / 8] ^= (byte) (1 << bit % 8);
+            sumIs(check, "a key with bit " + bit + " changed", key, row);
+        }
+        sumIs(check, "a key of 255s", Bytes.repeat(255, 32), row);
+        sumIs(check, "a key of 0s", new byte[32], row);
+    }
+
     private static void numbersNearThePrime(Check check) {
+        check.words("16 bytes by Poly1305 (near its prime)");
         for (int factor = 0; factor < 256; factor++) {
             for (int lowest = 0xf0; lowest < 256; lowest++) {
                 byte[] key = Bytes.repeat(255, 32);
@@ -81,6 +131,7 @@ public final class SumTest {
      * off: runs of other tests would hardly ever come to one, so the block is solved for here.
      */
     private static void totalsNearTheirEdges(Check check) {
+        check.words("16 bytes by Poly1305 (where bits are carried)");
         Random random = new Random(8);
         int[] bits = {0, 24, 26, 32, 52, 64, 78, 96, 104, 128, 130};
         for (int bit : bits) {
@@ -110,12 +161,35 @@ public final class SumTest {
         }
     }
 
-    private static void theTapeIsEmptied(Check check) {
-        byte[] key = Bytes.mixed(24, 32);
-        StreamSeal x = Hands.made(key, new byte[12], Bytes.mixed(25, 100));
+    private static void theLastAdditionWrapsAround(Check check) {
+        check.words("16 bytes by Poly1305 (whose last addition keeps 128 bits)");
+        byte[] key = Bytes.join(Bytes.mixed(28, 16), Bytes.repeat(255, 16));
+        for (int size = 0; size <= 33; size++) {
+            sumIs(check, size + " bytes and the highest second half", key, Bytes.mixed(29, size));
+        }
+        // Factor 1 and a block of 1 make a total of 2^128 + 1: its own highest bit goes, too.
+        byte[] one = Bytes.hex("01000000000000000000000000000000");
+        StreamSeal x = Hands.made(Bytes.join(one, Bytes.repeat(255, 16)), new byte[12], one);
         x.sum();
-        check.due("end(1) behind sum()", x.end(1), StreamSeal.REFUSED);
-        check.due("sum() of nothing", x.sum(), 16);
-        check.due("OUT of sum() of nothing", Hands.out(x), Reference.sum(key, new byte[0]));
+        check.due("OUT of a sum that wraps around to 0", Hands.out(x), new byte[16]);
+    }
+
+    private static void theNonceDoesNotCount(Check check) {
+        check.words("SUM(THE KEY, the TAPE) (not of THE NONCE)");
+        byte[] row = Bytes.mixed(30, 50);
+        StreamSeal x = Scene.with(row);
+        x.nonce(-1, -1);
+        x.sum();
+        check.due("OUT of sum() with another nonce", Hands.out(x), Reference.sum(Scene.KEY, row));
+    }
+
+    private static void outBecomesTheSumAlone(Check check) {
+        check.words("OUT becomes SUM(THE KEY, the TAPE): 16 (whatever it had)");
+        byte[] row = Bytes.mixed(31, 100);
+        StreamSeal x = Hands.made(Scene.KEY, Scene.NONCE, Bytes.mixed(32, 800));
+        x.seal(0);
+        Hands.put(x, row);
+        check.due("sum() behind 816", x.sum(), 16);
+        Scene.holds(check, "behind sum()", x, new byte[0], Reference.sum(Scene.KEY, row));
     }
 }
