@@ -4,6 +4,9 @@ import java.util.Random;
 public final class ModelTest {
     private static final int RUNS = 1500;
     private static final int CALLS = 512;
+    /** The most calls that these runs of calls make, so that an object has no more than are promised. */
+    private static final int KEY_CALLS = 4;
+    private static final int SEAL_CALLS = 41;
     private static final int[] ODD = {-1, -2, -16, 16, 32, 63, 64, 799, 800, 801, 816,
         Integer.MAX_VALUE, Integer.MAX_VALUE - 15, Integer.MIN_VALUE};
 
@@ -94,7 +97,7 @@ public final class ModelTest {
     }
 
     private void changeKey() {
-        if (random.nextBoolean()) {
+        if (random.nextBoolean() && left >= KEY_CALLS) {
             feed(2);
             end(32);
         }
@@ -134,6 +137,9 @@ public final class ModelTest {
 
     /** Without a head, the sealed bytes alone make the TAPE that opens. */
     private void sealAndOpen() {
+        if (left < SEAL_CALLS) {
+            return;
+        }
         feed(random.nextInt(30));
         end(random.nextInt(model.tape.length + 1));
         seal(0);
